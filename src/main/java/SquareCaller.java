@@ -365,7 +365,8 @@ public final class SquareCaller {
      * for each DANCER, its cell in the lower four, its FACING in the upper two.
      */
     private static final class Packed {
-        private static final int BITS = 6;
+        private static final int CELL_BITS = 4;
+        private static final int BITS = CELL_BITS + 2;
 
         private Packed() {
         }
@@ -379,15 +380,19 @@ public final class SquareCaller {
         }
 
         static int facingOf(long square, int dancer) {
-            return (int) (square >> (BITS * dancer + 4)) & 3;
+            return (int) (square >> (BITS * dancer + CELL_BITS)) & 3;
+        }
+
+        static long of(int[] cells, int[] facings) {
+            long square = 0;
+            for (int d = 0; d < DANCERS && d < cells.length && d < facings.length; d++) {
+                square |= bits(d, cells[d], facings[d]);
+            }
+            return square;
         }
 
         static long atFirst() {
-            long square = 0;
-            for (int d = 0; d < DANCERS; d++) {
-                square |= bits(d, HOME_CELLS[d], HOME_FACINGS[d]);
-            }
-            return square;
+            return of(HOME_CELLS, HOME_FACINGS);
         }
 
         static long turned(long square, boolean renamed) {
@@ -411,6 +416,15 @@ public final class SquareCaller {
                 least = Math.min(least, turning);
             }
             return least;
+        }
+
+        static boolean isAmong(long square, long[] row, int size) {
+            for (int i = 0; i < size && i < row.length; i++) {
+                if (row[i] == square) {
+                    return true;
+                }
+            }
+            return false;
         }
     }
 
@@ -572,20 +586,12 @@ public final class SquareCaller {
         }
 
         long packed() {
-            long square = 0;
-            for (int d = 0; d < DANCERS; d++) {
-                square |= Packed.bits(d, cells[d], facings[d]);
-            }
-            return square;
+            return Packed.of(cells, facings);
         }
 
         /** The SQUARE that a plan without FALLS leads to. */
         long planned() {
-            long square = 0;
-            for (int d = 0; d < DANCERS; d++) {
-                square |= Packed.bits(d, toCells[d], toFacings[d]);
-            }
-            return square;
+            return Packed.of(toCells, toFacings);
         }
 
         /** Plans a call, told by its number; false: it FALLS. */
@@ -950,21 +956,12 @@ public final class SquareCaller {
             int found = 0;
             for (int i = 0; i <= size; i++) {
                 long square = sort == 0 ? passed[i] : Packed.least(passed[i], sort == 1);
-                if (!isAmong(square, found)) {
+                if (!Packed.isAmong(square, scratch, found)) {
                     scratch[found] = square;
                     found++;
                 }
             }
             return found;
-        }
-
-        private boolean isAmong(long square, int found) {
-            for (int i = 0; i < found; i++) {
-                if (scratch[i] == square) {
-                    return true;
-                }
-            }
-            return false;
         }
 
         /** How many calls from the i-th on are the same and are told at a time. */
@@ -1067,7 +1064,7 @@ public final class SquareCaller {
         private void comeTo(long square, int from, int code) {
             if (square == home) {
                 answer = trace(from, code);
-            } else if (!isReached(square) && !add(square, from, code)) {
+            } else if (!Packed.isAmong(square, reached, size) && !add(square, from, code)) {
                 answer = LONG;
             }
         }
@@ -1081,15 +1078,6 @@ public final class SquareCaller {
             cameBy[size] = code;
             size++;
             return true;
-        }
-
-        private boolean isReached(long square) {
-            for (int i = 0; i < size; i++) {
-                if (reached[i] == square) {
-                    return true;
-                }
-            }
-            return false;
         }
 
         /** Writes down the calls that led to a SQUARE, and the last one: how many. */

@@ -128,6 +128,8 @@ public final class CallsTest {
         danceTo("heads forward,sides left,slide", "........|7^6v4v5v|8^2^1^3v|........|");
         // 0 has one at its left alone
         danceTo("slide,slide", AT_HOME);
+        danceTo("heads right,heads back", "....6<5<|7>....4<|8>....3<|1>2>....|");
+        danceTo("heads right,heads back,slide", "....6<5<|7>....3<|1>....4<|8>2>....|");
         danceTo("slide,heads fold", "....6v..|8>..5^3<|7>1v..4<|..2^....|");
         // the left one of a fold does not change
         SquareCaller x = Due.after("heads fold");
@@ -211,6 +213,10 @@ public final class CallsTest {
         fault("left 2,heads right 4,men", 24);
         fault("left`", 4);
         fault("left{", 4);
+        fault("leftz", 0);
+        fault("lefta", 0);
+        fault("xeft", 0);
+        fault("heads yight", 6);
         fault("x".repeat(120), 0);
         fault("left,".repeat(24), 120);
     }
@@ -235,6 +241,10 @@ public final class CallsTest {
         due.is("3: call(200)", x.call(200), SquareCaller.NOT);
         due.is("6: undo of the 200th", x.undo(), 199);
         due.is("7: redo of the 200th", x.redo(), 200);
+        due.is("21: image of 200", x.image(), 200);
+        due.is("8: home from 200", x.home(), 200);
+        due.is("22: back to 200", x.back(), 200);
+        due.is("22: the 201st", Due.dance(x, "left"), SquareCaller.FULL);
     }
 
     private static void falling(String before, String text, String falls) {
@@ -280,8 +290,15 @@ public final class CallsTest {
         falling("men around", "fold", "/4");
         falling("", "heads ring", "/5");
         falling("heads forward", "ring", "/5");
+        falling("sides forward,outers right,trade,outers right,centers forward", "ring", "/5");
         // nobody is meant: that is named first, of the ring, too
         falling("", "centers ring", "/4");
+        // seven of HOME's cells are taken, and the first one is not
+        SquareCaller x = Due.after("men forward,centers forward,ladies around,sides left,trade,centers slide");
+        due.is("4: on to seven cells",
+                Due.dance(x, "belles around,heads left,outers right,sides around,centers forward"), 5);
+        due.is("4: the first cell is free", x.on(1), SquareCaller.NOT);
+        due.is("4: seven are taken", Due.dance(x, "ring") * 10 + x.fall(-1), 5);
         due.is("4: fall(1) of nobody", Due.after("centers left").fall(1), SquareCaller.NOT);
     }
 

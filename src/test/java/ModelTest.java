@@ -1,3 +1,4 @@
+import java.util.List;
 import java.util.Random;
 
 /** Long runs of calls, made from fixed seeds, on the class and on the model: both answer the same. */
@@ -109,9 +110,10 @@ public final class ModelTest {
 
     private String text() {
         StringBuilder b = new StringBuilder();
+        List<Model.Pos> square = m.square();
         int n = random.nextInt(8) == 0 ? random.nextInt(30) : random.nextInt(3) + 1;
         for (int i = 0; i < n; i++) {
-            b.append(i > 0 ? "," : "").append(oneCall());
+            b.append(i > 0 ? "," : "").append(oneCall(square));
         }
         if (random.nextInt(12) == 0) {
             spoil(b);
@@ -119,12 +121,20 @@ public final class ModelTest {
         return b.toString();
     }
 
-    private String oneCall() {
-        String who = random.nextInt(3) == 0 ? "" : Model.WHO.get(random.nextInt(9)) + " ";
-        // short moves from the start lead soon to squares where the figures of pairs can be danced
-        String figure = Model.FIGURES.get(random.nextInt(12));
-        String times = random.nextInt(4) == 0 ? " " + (2 + random.nextInt(3)) : "";
-        return who + figure + times;
+    private String oneCall(List<Model.Pos> square) {
+        Model.Call call = anyCall();
+        // most calls fall on most squares: without some choice the runs would stay near HOME
+        for (int tries = random.nextInt(12); tries > 0 && Model.outcome(square, call).fell(); tries--) {
+            call = anyCall();
+        }
+        boolean isShort = call.who().equals("all") && random.nextInt(4) != 0;
+        String times = random.nextInt(6) == 0 ? " " + (2 + random.nextInt(3)) : "";
+        return (isShort ? "" : call.who() + " ") + call.figure() + times;
+    }
+
+    private Model.Call anyCall() {
+        String who = random.nextInt(4) == 0 ? "all" : Model.WHO.get(random.nextInt(9));
+        return new Model.Call(who, Model.FIGURES.get(random.nextInt(12)));
     }
 
     private void spoil(StringBuilder b) {

@@ -91,6 +91,10 @@ public final class WaysTest {
         SquareCaller y = Due.after("men left");
         due.is("14: elsewhere", Due.round(y, "left"), 4);
         due.is("14: the ring never leads back", Due.round(y, "ring"), NOT);
+        due.is("14: sixty", Due.round(Due.after("men forward"), "outers around,back,sides left,heads right"), 60);
+        due.is("14: sixty-four", Due.round(Due.after("sides forward,centers around"),
+                "outers left,slide,left,sides right,sides trade"), 64);
+        due.is("14: never", Due.round(x, "belles around,men around"), NOT);
         SquareCaller full = Due.after("left 4,".repeat(13) + "left 4");
         Due.dance(full, "left 4,".repeat(13) + "left 4");
         Due.dance(full, "left 4,".repeat(13) + "left 4");
