@@ -19,6 +19,10 @@ final class Due {
         }
     }
 
+    int wrong() {
+        return wrong;
+    }
+
     /** Ends the test: exit code 1 if an answer was wrong. */
     void end(String name) {
         System.out.println(name + ": " + held + " answers held, " + wrong + " wrong");
