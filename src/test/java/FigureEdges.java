@@ -10,6 +10,8 @@ final class FigureEdges {
 
     void all(Edges on) {
         on.sentence(0, "3; a cell's number is 4 y + x.", this::corners);
+        on.sentence(0, "FACING: 0 to greater y, 1 to greater x, 2 to less y, 3 to less x;", this::facings);
+        on.sentence(0, "left, right, around: turns where it stands.", this::turns);
         on.sentence(0, "RIGHT of 0 is 1, of 1 2, of 2 3, of 3 0.", this::turnsGoRound);
         on.sentence(0, "centers (who stand on x and y 1 or 2 as the call begins), outers (the others)",
                 this::centers);
@@ -83,6 +85,25 @@ final class FigureEdges {
         due.is("y counts fours", x.at(7, 0), 8);
         due.is("below the first cell", x.on(-1), SquareCaller.BAD);
         due.is("above the last cell", x.on(16), SquareCaller.BAD);
+    }
+
+    private void facings() {
+        SquareCaller heads = Due.after("heads forward");
+        SquareCaller sides = Due.after("sides forward");
+        due.is("0, FACING 0, from 1", heads.at(0, 0), 1 + 4);
+        due.is("6, FACING 1, from 8", sides.at(6, 0), 8 + 1);
+        due.is("4, FACING 2, from 14", heads.at(4, 0), 14 - 4);
+        due.is("2, FACING 3, from 7", sides.at(2, 0), 7 - 1);
+    }
+
+    private void turns() {
+        leads("left", "..6>5>..|7^....4v|8^....3v|..1<2<..|");
+        leads("right", "..6<5<..|7v....4^|8v....3^|..1>2>..|");
+        leads("around", "..6^5^..|7<....4>|8<....3>|..1v2v..|");
+        // only those who are meant
+        leads("heads left", "..6>5>..|7>....4<|8>....3<|..1<2<..|");
+        leads("ladies right", "..6<5v..|7>....4^|8v....3<|..1^2>..|");
+        leads("men around", "..6v5^..|7<....4<|8>....3>|..1v2^..|");
     }
 
     private void turnsGoRound() {
@@ -371,6 +392,15 @@ final class FigureEdges {
         falls("heads forward,sides left,trade,centers forward", "ring", "/5");
         falls("heads forward,sides left,trade,centers forward", "outers ring", "/5");
         falls("heads forward", "centers ring", "/5");
+        // seven of the cells are taken, and the first one is free
+        SquareCaller x = Due.after("men forward,centers forward,ladies around,sides left,trade,centers slide");
+        Due.dance(x, "belles around,heads left,outers right,sides around,centers forward");
+        due.is("the first cell", x.on(1), SquareCaller.NOT);
+        for (int cell : new int[] {2, 7, 11, 14, 13, 8, 4}) {
+            due.is("somebody on cell " + cell, x.on(cell) >= 0 ? 1 : 0, 1);
+        }
+        due.is("ring", Due.dance(x, "ring"), 0);
+        due.is("its fall", Due.falls(x), "/5");
         falls("left,forward", "outers ring", "/5");
         // nobody is meant: 4 is named first
         falls("", "centers ring", "/4");

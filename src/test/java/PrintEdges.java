@@ -215,6 +215,10 @@ final class PrintEdges {
         due.is("undone ones, too", x.danced(11), 2);
         x.redo();
         due.is("danced again anew", x.danced(11), 3);
+        SquareCaller two = Due.after("left,right");
+        two.undo();
+        two.redo();
+        due.is("the one that is danced again", two.danced(2) + 10 * two.danced(3), 1 + 10 * 2);
         due.is("a redo() that is refused", x.redo(), STATE);
         due.is("is none", x.danced(11), 3);
         x.undo();

@@ -12,6 +12,10 @@ final class StandEdges {
 
     void all(Edges on) {
         on.sentence(0, "DANCERS 0 .. 7: couple d / 2, the man the even one, the lady the other.", this::dancers);
+        on.sentence(0, "WHO: all; heads (couples 0, 2), sides (1, 3), men, ladies;", this::who);
+        on.sentence(0, "HOME: 0 at (1, 0), 1 at (2, 0), both FACING 0; 2 at (3, 1), 3 at (3, 2), FACING 3; 4 at "
+                + "(2, 3), 5 at (1, 3), FACING 2; 6 at (0, 2), 7 at (0, 1), FACING 1. All are HOME at first.",
+                this::homes);
         on.sentence(9, "Where a DANCER stands (what 0), is FACING (1);", this::whereAndFacing);
         on.sentence(9, "who stands ahead of it (2; on the neighbouring cell; NOT: nobody), at its right (3), "
                 + "its left (4), behind it (5). BAD.", this::neighbours);
@@ -34,12 +38,35 @@ final class StandEdges {
                 due.is("dancer " + dancer + ", what " + what, x.at(dancer, what), BAD);
             }
         }
-        due.is("heads: couples 0 and 2", x.meant(1), 0b00110011);
-        due.is("sides: couples 1 and 3", x.meant(2), 0b11001100);
-        due.is("men: the even ones", x.meant(3), 0b01010101);
-        due.is("ladies: the others", x.meant(4), 0b10101010);
         Witness.refused(due, "at(-1, 0)", Witness::busyWithTape, o -> o.at(-1, 0), BAD);
         Witness.refused(due, "at(8, 5)", Witness::busyWithTape, o -> o.at(8, 5), BAD);
+    }
+
+    private void who() {
+        // wherever they stand
+        for (String text : new String[] {"", "heads forward", "slide", "ring 3", "left,forward"}) {
+            SquareCaller x = Due.after(text);
+            due.is("all after " + text, x.meant(0), 0b11111111);
+            due.is("heads after " + text, x.meant(1), 0b00110011);
+            due.is("sides after " + text, x.meant(2), 0b11001100);
+            due.is("men after " + text, x.meant(3), 0b01010101);
+            due.is("ladies after " + text, x.meant(4), 0b10101010);
+        }
+    }
+
+    private void homes() {
+        int[] xs = {1, 2, 3, 3, 2, 1, 0, 0};
+        int[] ys = {0, 0, 1, 2, 3, 3, 2, 1};
+        int[] facings = {0, 0, 3, 3, 2, 2, 1, 1};
+        SquareCaller first = new SquareCaller();
+        SquareCaller again = Due.after("left,forward");
+        again.home();
+        for (int d = 0; d < 8; d++) {
+            due.is("the cell of " + d, first.at(d, 0), 4 * ys[d] + xs[d]);
+            due.is("the FACING of " + d, first.at(d, 1), facings[d]);
+            due.is("the cell of " + d + " after home()", again.at(d, 0), 4 * ys[d] + xs[d]);
+            due.is("the FACING of " + d + " after home()", again.at(d, 1), facings[d]);
+        }
     }
 
     private void whereAndFacing() {
@@ -198,5 +225,7 @@ final class StandEdges {
         counts("heads left,men forward,heads right", 2, 0);
         // a lady at his right who is not of his couple
         counts("slide,ring", 2, 0);
+        // a man at her right
+        counts("ring", 2, 0);
     }
 }

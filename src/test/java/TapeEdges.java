@@ -190,6 +190,7 @@ final class TapeEdges {
         noneBehind("left,", word);
         noneBehind("left 3,", word);
         fault(word.substring(1), 0);
+        fault("x" + word.substring(1), 0);
         fault(cut + ",left", 0);
     }
 

@@ -21,6 +21,10 @@ final class WayEdges {
     void all(Edges on) {
         on.sentence(0, "THE WAY HOME: the fewest calls by which all are HOME as they are FACING there;",
                 this::fewest);
+        on.sentence(0, "calls are told in order: WHO by all heads sides men ladies centers outers belles beaus, of "
+                + "each FIGURES by forward back left right around pass star box slide trade fold ring;", this::inOrder);
+        on.sentence(0, "SQUARES are come to square by square, in that order (those come to ahead, and the calls "
+                + "that FALL, are passed over)", this::passedOver);
         on.sentence(0, "of like many the one found so.", this::foundFirst);
         on.sentence(0, "250 at most, with the first (LONG, if a 251st would come that is not HOME)",
                 this::mostSquares);
@@ -65,6 +69,36 @@ final class WayEdges {
         due.is("three calls", x.way(-1), 3);
         due.is("and home", Due.dance(x, "forward,left,ladies left"), 3);
         due.is("all are", x.way(-1), 0);
+    }
+
+    private void inOrder() {
+        // the WHO and the FIGURES of short ways; heads come ahead of centers, ladies ahead of belles
+        way("left,back", "0 3");
+        way("left,forward", "1 3");
+        way("right", "2");
+        way("left", "3");
+        way("around", "4");
+        way("slide", "8");
+        way("trade", "9");
+        way("ring 4,ring 3", "11");
+        way("heads left", "103");
+        way("heads forward", "101");
+        way("sides left", "203");
+        way("men left", "303");
+        way("ladies left", "403");
+        way("belles left", "403");
+        way("sides slide,beaus forward", "501 208");
+    }
+
+    private void passedOver() {
+        // forward and back are danced and come to a square each, left leads home
+        homeAt(4, "right", "2");
+        homeAt(5, "left", "3");
+        // forward and back FALL
+        homeAt(4, "around", "4");
+        // nine squares by all, four by heads, whose slide, trade and fold were come to ahead, three by sides
+        homeAt(17, "sides left", "203");
+        homeAt(1, "left 4", "");
     }
 
     private void foundFirst() {
