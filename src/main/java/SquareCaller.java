@@ -17,6 +17,8 @@ public final class SquareCaller {
     private static final int PER_WHO = 100;
     private static final int FAULT_BASE = -100;
     private static final int MOST_ROUNDS = 100;
+    /** How many times at most one CALL of a TEXT tells. */
+    private static final int MOST_TIMES = 4;
     private static final int NEW_LINE = 10;
 
     private static final int AHEAD = 0, TO_RIGHT = 1, BEHIND = 2, TO_LEFT = 3;
@@ -43,7 +45,7 @@ public final class SquareCaller {
     private final Dance kept = new Dance();
     private boolean isKept = false;
     private final Falls latestFalls = new Falls();
-    private final WayHome wayHome = new WayHome(floor);
+    private final WayHome wayHome = new WayHome();
     private final Print print = new Print();
     private final int[] tally = new int[FIGURES];
 
@@ -501,7 +503,7 @@ public final class SquareCaller {
             int times = 1;
             if (byteAt(end) == ' ') {
                 times = byteAt(end + 1) - '0';
-                if (times < 2 || times > 4) {
+                if (times < 2 || times > MOST_TIMES) {
                     return -1 - (end + 1);
                 }
                 end += 2;
@@ -964,13 +966,8 @@ public final class SquareCaller {
             return found;
         }
 
-        /** How many calls from the i-th on are the same and are told at a time. */
-        int sameFrom(int i) {
-            int end = i + 1;
-            while (end < size && end < i + 4 && codeAt(end) == codeAt(i)) {
-                end++;
-            }
-            return end - i;
+        boolean isSameAsNext(int i) {
+            return i + 1 < size && codeAt(i) == codeAt(i + 1);
         }
     }
 
@@ -983,18 +980,21 @@ public final class SquareCaller {
         void write(Dance dance, int wantedByte) {
             wanted = wantedByte;
             length = 0;
-            int times = 1;
-            for (int i = 0; i < dance.size; i += times) {
-                times = dance.sameFrom(i);
-                if (i > 0) {
-                    put(',');
+            int times = 0;
+            for (int i = 0; i < dance.size; i++) {
+                times++;
+                if (times == MOST_TIMES || !dance.isSameAsNext(i)) {
+                    writeCall(dance.codeAt(i), times);
+                    times = 0;
                 }
-                writeCall(dance.codeAt(i), times);
             }
         }
 
         private void writeCall(int code, int times) {
             int who = code / PER_WHO;
+            if (length > 0) {
+                put(',');
+            }
             if (who != ALL) {
                 putWord(Words.ofWho(who));
                 put(' ');
@@ -1024,7 +1024,7 @@ public final class SquareCaller {
     private static final class WayHome {
         private static final int MOST = 250;
 
-        private final Floor floor;
+        private final Floor floor = new Floor();
         private final long home = Packed.atFirst();
         private final long[] reached = new long[MOST];
         private final int[] cameFrom = new int[MOST];
@@ -1035,10 +1035,6 @@ public final class SquareCaller {
         private long start = home;
         /** How many calls the way has, or NOT, or LONG. */
         private int answer = 0;
-
-        WayHome(Floor floor) {
-            this.floor = floor;
-        }
 
         int codeAt(int i) {
             return i >= 0 && i < MOST && i < answer ? codes[i] : 0;

@@ -114,6 +114,8 @@ public final class LanguageTest {
             due.is("rules 2 to 13: the source holds", m.group(), "");
         }
         due.is("rule 12: a new object or row in a method", newInMethods(code), 0);
+        Matcher handed = Pattern.compile("new \\w+\\([^)]").matcher(code);
+        due.is("rule 12: a part of the object is handed out as it is made", handed.find() ? 1 : 0, 0);
     }
 
     /** All rows and objects are made as fields: "new" stands only behind a field's name and "=". */
