@@ -1,3 +1,6 @@
+import java.util.Set;
+import java.util.TreeSet;
+
 /** Promises 17 to 22: text, picture, call, danced, image, back. */
 public final class PrintedTest {
     private static final Due due = new Due();
@@ -8,6 +11,7 @@ public final class PrintedTest {
     public static void main(String[] args) {
         text();
         textOfSeveralDances();
+        everyCallIsTold();
         picture();
         call();
         danced();
@@ -65,6 +69,25 @@ public final class PrintedTest {
         SquareCaller y = Due.after("heads forward,pass,left 3,left 2,centers slide");
         SquareCaller z = Due.after(Due.text(y));
         due.is("17: danced by its text", Due.picture(z), Due.picture(y));
+    }
+
+    /** Each WHO with each FIGURE, as the latest call of a dance: forward of all, whose number is 0, too. */
+    private static void everyCallIsTold() {
+        Set<String> told = new TreeSet<>();
+        for (String before : new String[] {"around", "left", "heads forward", "heads forward,left", "men around"}) {
+            for (String who : Model.WHO) {
+                for (String figure : Model.FIGURES) {
+                    String call = who.equals("all") ? figure : who + " " + figure;
+                    SquareCaller x = Due.after(before);
+                    if (!before.endsWith(call) && Due.dance(x, who + " " + figure) == 1) {
+                        due.is("17: the latest call", Due.text(x), before + "," + call);
+                        told.add(call);
+                    }
+                }
+            }
+        }
+        due.is("17: calls told", told.size(), 63);
+        due.is("17: forward of all is told", told.contains("forward") ? 1 : 0, 1);
     }
 
     private static void picture() {
