@@ -11,7 +11,7 @@ public final class PrintedTest {
     public static void main(String[] args) {
         text();
         textOfSeveralDances();
-        everyCallIsTold();
+        latestCallIsTold();
         picture();
         call();
         danced();
@@ -71,8 +71,8 @@ public final class PrintedTest {
         due.is("17: danced by its text", Due.picture(z), Due.picture(y));
     }
 
-    /** Each WHO with each FIGURE, as the latest call of a dance: forward of all, whose number is 0, too. */
-    private static void everyCallIsTold() {
+    /** Each call that five squares let be danced, as the latest: forward of all, whose number is 0, too. */
+    private static void latestCallIsTold() {
         Set<String> told = new TreeSet<>();
         for (String before : new String[] {"around", "left", "heads forward", "heads forward,left", "men around"}) {
             for (String who : Model.WHO) {
